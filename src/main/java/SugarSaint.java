@@ -62,7 +62,6 @@ public final class SugarSaint {
     /** A town to try things out on, so that asking never touches the real one. */
     private final Town draft = new Town();
     private final Seeker seeker = new Seeker();
-    private final Tape tape = new Tape();
     private final Reader reader = new Reader();
     private final Sheet[] sheets = new Sheet[SHEETS];
     private final int[] told = new int[FINDINGS];
@@ -142,7 +141,8 @@ public final class SugarSaint {
         if (!scene.town.has(street) || !isIn(i, 0, SPELLS - 1)) {
             return finding(BEYOND);
         }
-        return scene.town.lossIn(street, i, scene.saint.salt);
+        Town town = scene.town;
+        return town.streets[street].lossBy(town.sun[i], town.rain[i], scene.saint.salt);
     }
 
     public int next(int corner) {
@@ -235,7 +235,7 @@ public final class SugarSaint {
     }
 
     public int most(int corner) {
-        int trouble = seekWaysTo(corner);
+        int trouble = findWays(corner);
         if (trouble != 0) {
             return trouble;
         }
@@ -246,7 +246,7 @@ public final class SugarSaint {
         if (!isIn(i, 0, CORNERS - 2)) {
             return finding(BEYOND);
         }
-        int trouble = seekWaysTo(corner);
+        int trouble = findWays(corner);
         if (trouble != 0) {
             return trouble;
         }
@@ -254,7 +254,7 @@ public final class SugarSaint {
     }
 
     public int soonest(int corner) {
-        int trouble = seekWaysTo(corner);
+        int trouble = findWays(corner);
         if (trouble != 0) {
             return trouble;
         }
@@ -265,7 +265,7 @@ public final class SugarSaint {
         if (!isCorner(corner)) {
             return finding(BEYOND);
         }
-        seeker.seekWays(scene.town, scene.saint, corner);
+        seekWays(corner);
         return seeker.found;
     }
 
@@ -273,7 +273,7 @@ public final class SugarSaint {
         if (isPastPlanning()) {
             return finding(STATE);
         }
-        seekRoundsNow();
+        seekRounds(scene.town, scene.saint.salt, -1);
         return seeker.found == 0 ? finding(NONE) : seeker.left;
     }
 
@@ -284,7 +284,7 @@ public final class SugarSaint {
         if (isPastPlanning()) {
             return finding(STATE);
         }
-        seekRoundsNow();
+        seekRounds(scene.town, scene.saint.salt, -1);
         return i < seeker.firstLength ? seeker.first[i] : finding(NONE);
     }
 
@@ -292,7 +292,7 @@ public final class SugarSaint {
         if (isPastPlanning()) {
             return finding(STATE);
         }
-        seekRoundsNow();
+        seekRounds(scene.town, scene.saint.salt, -1);
         return seeker.found;
     }
 
@@ -302,9 +302,9 @@ public final class SugarSaint {
         }
         int best = -1;
         int bestLeft = -1;
-        seeker.prepare(scene.town, scene.saint, -1);
+        seeker.prepare(scene.town, scene.saint, scene.saint.salt, -1);
         for (int waited = 0; waited <= LONGEST_WAIT; waited++) {
-            seeker.seekRounds(scene.saint.salt, scene.saint.minute + waited);
+            seeker.seek(Seeker.ROUNDS, scene.saint.minute + waited);
             if (seeker.left > bestLeft) {
                 bestLeft = seeker.left;
                 best = waited;
@@ -319,9 +319,8 @@ public final class SugarSaint {
         }
         int best = -1;
         int bestLeft = -1;
-        seeker.prepare(scene.town, scene.saint, -1);
         for (int salt = SUGAR; salt <= SALT; salt++) {
-            seeker.seekRounds(salt, scene.saint.minute);
+            seekRounds(scene.town, salt, -1);
             if (seeker.left > bestLeft) {
                 bestLeft = seeker.left;
                 best = salt;
@@ -343,7 +342,7 @@ public final class SugarSaint {
             Street tried = draft.streets[street];
             if (tried.umbrella == 0) {
                 tried.umbrella = 1;
-                seekRoundsIn(draft, -1);
+                seekRounds(draft, scene.saint.salt, -1);
                 tried.umbrella = 0;
                 if (seeker.left > bestLeft) {
                     bestLeft = seeker.left;
@@ -365,7 +364,7 @@ public final class SugarSaint {
             Street tried = draft.streets[street];
             int was = tried.kind;
             tried.kind = SHADED;
-            seekRoundsIn(draft, -1);
+            seekRounds(draft, scene.saint.salt, -1);
             tried.kind = was;
             if (seeker.left > bestLeft) {
                 bestLeft = seeker.left;
@@ -379,13 +378,13 @@ public final class SugarSaint {
         if (isPastPlanning()) {
             return finding(STATE);
         }
-        seekRoundsNow();
+        seekRounds(scene.town, scene.saint.salt, -1);
         if (seeker.found == 0) {
             return finding(NONE);
         }
         int set = 0;
         for (int street = 0; street < scene.town.size; street++) {
-            seekRoundsIn(scene.town, street);
+            seekRounds(scene.town, scene.saint.salt, street);
             if (seeker.found == 0) {
                 set |= 1 << street;
             }
@@ -399,11 +398,11 @@ public final class SugarSaint {
         }
         draft.takeFrom(scene.town);
         int best = STREET;
-        int least = Integer.MAX_VALUE;
+        int least = 0;
         for (int kind = 0; kind < KINDS; kind++) {
             draft.streets[street].kind = kind;
             int cost = costsIn(draft, street, scene.saint.minute);
-            if (cost < least) {
+            if (kind == 0 || cost < least) {
                 least = cost;
                 best = kind;
             }
@@ -473,28 +472,29 @@ public final class SugarSaint {
         if (!isIn(n, 1, 4)) {
             return finding(BEYOND);
         }
-        if (tape.size + n > TAPE) {
+        if (reader.size + n > TAPE) {
             return finding(FULL);
         }
         for (int i = n - 1; i >= 0; i--) {
-            tape.append(bytes >>> (8 * i) & 255);
+            reader.append(bytes >>> (8 * i) & 255);
         }
-        return tape.size;
+        return reader.size;
     }
 
     public int wipe() {
-        int had = tape.size;
-        tape.size = 0;
+        int had = reader.size;
+        reader.size = 0;
         return had;
     }
 
     public int text() {
-        // read into a copy of the town, so that a fault leaves no half-told text behind
-        draft.takeFrom(scene.town);
-        int answer = reader.readAll(tape, draft, scene.saint.salt);
-        tape.size = 0;
+        // told to a copy of the town, so that a fault leaves no half-told text behind
+        reader.town.takeFrom(scene.town);
+        reader.salt = scene.saint.salt;
+        int answer = reader.readAll();
+        reader.size = 0;
         if (answer >= 0) {
-            scene.town.takeFrom(draft);
+            scene.town.takeFrom(reader.town);
             scene.saint.salt = reader.salt;
         }
         return answer;
@@ -640,7 +640,7 @@ public final class SugarSaint {
             case 2: return scene.town.umbrellas();
             case 3: return sumOf(scene.town.sun);
             case 4: return sumOf(scene.town.rain);
-            case 5: return tape.size;
+            case 5: return reader.size;
             case 6: return scene.z;
             case 7: return scene.spotsHeld();
             default: return finding(BEYOND);
@@ -667,25 +667,27 @@ public final class SugarSaint {
         return scene.saint.minute > LAST_TO_PLAN;
     }
 
-    /** Looks for all ways to a corner: 0 if there is one, else the finding. */
-    private int seekWaysTo(int corner) {
+    /** Looks for all ways to a corner, if it may be asked now: 0 if there is one, else the finding. */
+    private int findWays(int corner) {
         if (!isCorner(corner)) {
             return finding(BEYOND);
         }
         if (isPastPlanning()) {
             return finding(STATE);
         }
-        seeker.seekWays(scene.town, scene.saint, corner);
+        seekWays(corner);
         return seeker.found == 0 ? finding(NONE) : 0;
     }
 
-    private void seekRoundsNow() {
-        seekRoundsIn(scene.town, -1);
+    private void seekWays(int corner) {
+        seeker.prepare(scene.town, scene.saint, scene.saint.salt, -1);
+        seeker.seek(corner, scene.saint.minute);
     }
 
-    private void seekRoundsIn(Town town, int without) {
-        seeker.prepare(town, scene.saint, without);
-        seeker.seekRounds(scene.saint.salt, scene.saint.minute);
+    /** Looks for all rounds from now on, in a town without a street (-1: with all). */
+    private void seekRounds(Town town, int salt, int without) {
+        seeker.prepare(town, scene.saint, salt, without);
+        seeker.seek(Seeker.ROUNDS, scene.saint.minute);
     }
 
     private int costsIn(Town town, int street, int minute) {
@@ -825,6 +827,7 @@ public final class SugarSaint {
         final int[] quarters = new int[CORNERS];
         final int[] sun = new int[SPELLS];
         final int[] rain = new int[SPELLS];
+        private final int[] losses = new int[SPELLS];
 
         Town() {
             for (int i = 0; i < STREETS; i++) {
@@ -901,23 +904,34 @@ public final class SugarSaint {
             return set;
         }
 
-        int lossIn(int street, int spell, int salt) {
-            return streets[street].lossBy(sun[spell], rain[spell], salt);
+        /** Writes what a minute on a street takes in each spell into a row, from a place on. */
+        void tellLosses(int street, int salt, int[] row, int place) {
+            if (place < 0 || place > row.length - SPELLS) {
+                return;
+            }
+            Street asked = streets[street];
+            for (int spell = 0; spell < SPELLS; spell++) {
+                row[place + spell] = asked.lossBy(sun[spell], rain[spell], salt);
+            }
         }
 
         /** All that a street takes off her from a minute on, if she has so much. */
         int lossAlong(int street, int from, int salt) {
-            int end = from + streets[street].takes();
+            tellLosses(street, salt, losses, 0);
+            return sumAlong(losses, 0, from, streets[street].takes());
+        }
+
+        /** What so many minutes take, by a row of losses in each spell that begins at a place. */
+        static int sumAlong(int[] row, int place, int from, int takes) {
+            int end = from + takes;
             int minute = from;
             int sum = 0;
-            for (int spell = Math.min(from / SPELL_MINUTES, SPELLS - 1); spell < SPELLS; spell++) {
-                boolean isLast = spell == SPELLS - 1;
-                int stop = isLast ? end : Math.min(end, (spell + 1) * SPELL_MINUTES);
-                sum += (stop - minute) * lossIn(street, spell, salt);
+            int spell = Math.min(from / SPELL_MINUTES, SPELLS - 1);
+            for (; spell < SPELLS && minute < end; spell++) {
+                // the last spell goes on and on
+                int stop = spell < SPELLS - 1 ? Math.min(end, (spell + 1) * SPELL_MINUTES) : end;
+                sum += (stop - minute) * row[place + spell];
                 minute = stop;
-                if (minute >= end) {
-                    break;
-                }
             }
             return sum;
         }
@@ -1076,19 +1090,22 @@ public final class SugarSaint {
      * what is left of her and whether her face still has grains.
      */
     private static final class Seeker {
-        private static final int ROUNDS = -1;
+        static final int ROUNDS = -1;
 
-        private final Town town = new Town();
         /** By which street one goes from a corner to another (8 * one + other), or -1. */
         private final int[] links = new int[CORNERS * CORNERS];
+        private final int[] takes = new int[STREETS];
+        /** What a minute takes, by street and spell (12 * street + spell). */
+        private final int[] losses = new int[STREETS * SPELLS];
+        private final int[] quarters = new int[CORNERS];
+        private int wanted = 0;
         private int origin = HOME;
-        private int goal = ROUNDS;
-        private int salt = SUGAR;
-        private int begin = 0;
         private int total = 0;
         private int faceLasts = 0;
         private int seenAhead = 0;
-        private int wanted = 0;
+
+        private int goal = ROUNDS;
+        private int begin = 0;
         private final int[] path = new int[CORNERS - 1];
 
         int found = 0;
@@ -1098,38 +1115,30 @@ public final class SugarSaint {
         final int[] first = new int[CORNERS - 1];
         int firstLength = 0;
 
-        void seekWays(Town through, Saint saint, int corner) {
-            prepare(through, saint, -1);
-            seek(corner, saint.salt, saint.minute);
-        }
-
-        /** All rounds in which every wanted quarter sees her, behind a prepare. */
-        void seekRounds(int madeOf, int minute) {
-            seek(ROUNDS, madeOf, minute);
-        }
-
-        /** Takes in a town (one street perhaps thought away, else -1) and her as she stands. */
-        void prepare(Town through, Saint saint, int without) {
-            town.takeFrom(through);
+        /** Takes in a town (one street perhaps thought away, else -1) and her, if she were of that. */
+        void prepare(Town town, Saint saint, int salt, int without) {
             Arrays.fill(links, -1);
             // from the greatest number down, so that of several streets the least one stays
             for (int i = town.size - 1; i >= 0; i--) {
+                Street street = town.streets[i];
+                takes[i] = street.takes();
+                town.tellLosses(i, salt, losses, SPELLS * i);
                 if (i != without) {
-                    Street street = town.streets[i];
                     links[CORNERS * street.one + street.other] = i;
                     links[CORNERS * street.other + street.one] = i;
                 }
             }
+            System.arraycopy(town.quarters, 0, quarters, 0, CORNERS);
+            wanted = town.quartersOnStreets();
             origin = saint.corner;
             total = saint.total();
             faceLasts = saint.faceLasts();
             seenAhead = saint.seen;
-            wanted = town.quartersOnStreets();
         }
 
-        private void seek(int target, int madeOf, int minute) {
+        /** Goes all ways to a corner, or all rounds that show her to all, from a minute on. */
+        void seek(int target, int minute) {
             goal = target;
-            salt = madeOf;
             begin = minute;
             found = 0;
             left = -1;
@@ -1154,8 +1163,8 @@ public final class SugarSaint {
                 int street = links[CORNERS * corner + target];
                 if (street >= 0 && !isInSet(visited, target)) {
                     path[depth] = target;
-                    int lostThen = lost + town.lossAlong(street, minute, salt);
-                    walk(target, minute + town.streets[street].takes(), lostThen,
+                    int lostThen = lost + Town.sumAlong(losses, SPELLS * street, minute, takes[street]);
+                    walk(target, minute + takes[street], lostThen,
                             seenAt(target, lostThen, seen), visited | 1 << target, depth + 1);
                 }
             }
@@ -1166,14 +1175,14 @@ public final class SugarSaint {
             if (street < 0) {
                 return;
             }
-            int lostThen = lost + town.lossAlong(street, minute, salt);
+            int lostThen = lost + Town.sumAlong(losses, SPELLS * street, minute, takes[street]);
             if ((wanted & ~seenAt(origin, lostThen, seen)) == 0) {
-                note(minute + town.streets[street].takes(), lostThen, depth);
+                note(minute + takes[street], lostThen, depth);
             }
         }
 
         private int seenAt(int corner, int lost, int seen) {
-            return lost < faceLasts ? seen | 1 << town.quarters[corner] : seen;
+            return lost < faceLasts ? seen | 1 << quarters[corner] : seen;
         }
 
         private void note(int minute, int lost, int length) {
@@ -1189,24 +1198,7 @@ public final class SugarSaint {
         }
     }
 
-    /** The bytes that a text is read from. */
-    private static final class Tape {
-        private final int[] bytes = new int[TAPE];
-        int size = 0;
-
-        void append(int v) {
-            if (size < TAPE) {
-                bytes[size] = v;
-                size++;
-            }
-        }
-
-        int at(int place) {
-            return isIn(place, 0, size - 1) ? bytes[place] : -1;
-        }
-    }
-
-    /** Reads a text, token by token, into a town. */
+    /** The tape, and what reads a text from it, token by token, into a town. */
     private static final class Reader {
         private static final int END = 0;
         private static final int WORD = 1;
@@ -1215,8 +1207,9 @@ public final class SugarSaint {
         private static final int NO_TOKEN = 4;
         private static final int TOP_NUMBER = 9999;
 
-        private Tape tape = new Tape();
-        private Town town = new Town();
+        private final int[] bytes = new int[TAPE];
+        int size = 0;
+        final Town town = new Town();
         int salt = SUGAR;
 
         private int type = END;
@@ -1224,11 +1217,15 @@ public final class SugarSaint {
         private int end = 0;
         private int value = 0;
 
+        void append(int v) {
+            if (size < TAPE) {
+                bytes[size] = v;
+                size++;
+            }
+        }
+
         /** How many items there are, or -1 less the fault; the town is half told then. */
-        int readAll(Tape from, Town into, int saltAhead) {
-            tape = from;
-            town = into;
-            salt = saltAhead;
+        int readAll() {
             end = 0;
             for (int items = 1; items <= TAPE; items++) {
                 advance();
@@ -1248,26 +1245,26 @@ public final class SugarSaint {
         /** Goes to the next token; the end of the tape is one, too, that begins behind all bytes. */
         private void advance() {
             begin = end;
-            while (begin < tape.size && tape.at(begin) == ' ') {
+            while (begin < size && byteAt(begin) == ' ') {
                 begin++;
             }
             end = begin;
             value = 0;
-            if (begin >= tape.size) {
+            if (begin >= size) {
                 type = END;
-            } else if (isLetter(tape.at(begin))) {
+            } else if (isLetter(byteAt(begin))) {
                 type = WORD;
-                while (end < tape.size && isLetter(tape.at(end))) {
+                while (end < size && isLetter(byteAt(end))) {
                     end++;
                 }
-            } else if (isDigit(tape.at(begin))) {
+            } else if (isDigit(byteAt(begin))) {
                 type = NUMBER;
-                while (end < tape.size && isDigit(tape.at(end))) {
-                    value = Math.min(TOP_NUMBER + 1, value * 10 + tape.at(end) - '0');
+                while (end < size && isDigit(byteAt(end))) {
+                    value = Math.min(TOP_NUMBER + 1, value * 10 + byteAt(end) - '0');
                     end++;
                 }
             } else {
-                type = tape.at(begin) == ';' ? SIGN : NO_TOKEN;
+                type = byteAt(begin) == ';' ? SIGN : NO_TOKEN;
                 end++;
             }
         }
@@ -1387,7 +1384,7 @@ public final class SugarSaint {
                 return false;
             }
             for (int i = 0; i < word.length(); i++) {
-                if (tape.at(begin + i) != word.charAt(i)) {
+                if (byteAt(begin + i) != word.charAt(i)) {
                     return false;
                 }
             }
@@ -1398,12 +1395,16 @@ public final class SugarSaint {
             return type == NUMBER && isIn(value, least, most);
         }
 
+        private int byteAt(int place) {
+            return place >= 0 && place < size ? bytes[place] : -1;
+        }
+
         private static boolean isLetter(int v) {
-            return isIn(v, 'a', 'z');
+            return v >= 'a' && v <= 'z';
         }
 
         private static boolean isDigit(int v) {
-            return isIn(v, '0', '9');
+            return v >= '0' && v <= '9';
         }
     }
 

@@ -5,6 +5,7 @@ public final class StreetsTest {
         umbrellas();
         shades();
         needed();
+        fullTown();
         kinds();
         late();
         Check.finish();
@@ -84,6 +85,35 @@ public final class StreetsTest {
         face.grains(1, 0);
         Check.due("by the other one her face melts", face.needed(), 1);
         Check.due("no streets", new SugarSaint().needed(), Check.NONE);
+    }
+
+    private static void fullTown() {
+        SugarSaint x = new SugarSaint();
+        for (int corner = 1; corner < 8; corner++) {
+            x.street(0, corner - 1, corner, 1);
+        }
+        for (int i = 0; i < 7; i++) {
+            x.street(0, 7, 0, i + 1);
+        }
+        x.spell(0, 1, 1);
+        Check.due("rounds()", x.rounds(), 2);
+        Check.due("all but one of the seven last", x.needed(), 127);
+        Check.due("umbrella()", x.umbrella(), 0);
+        Check.due("shade()", x.shade(), 0);
+        x.change(7, 3, 9);
+        Check.due("umbrella()", x.umbrella(), 7);
+        Check.due("shade()", x.shade(), 7);
+        x.change(13, 0, 3);
+        Check.due("the 14th is no way", x.by(0, 7), 7);
+        Check.due("kindFor(13)", x.kindFor(13), 3);
+        Check.due("umbrellas on all but the last", umbrellasBut(x, 13), 13);
+    }
+
+    private static int umbrellasBut(SugarSaint x, int street) {
+        for (int i = 0; i < 14; i++) {
+            x.change(i, 4, i == street ? 0 : 1);
+        }
+        return x.umbrella();
     }
 
     private static void kinds() {

@@ -88,6 +88,7 @@ public final class TextsTest {
     private static final String[] FAULTY = {
         "", "0", "    ", "4", ";", "0", "salt;", "5", "salt; ", "6", "salt;;salt", "5", "salt salt", "5", "salt 3", "5",
         "3 salt", "0", "?salt", "0", "salt?", "4", "  Salt", "2", "salts", "0", "sal", "0", "saltsugar", "0",
+        "xalt", "0", "saltz", "0", "asalt", "0", "salt`", "4", "salt{", "4", "salt/", "4", "salt:", "4", "spfll 0", "0",
         "street", "6", "street ", "7", "street 0", "8", "street 0 ", "9", "street 8 1", "7", "street 0 8", "9",
         "street 0 0", "9", "street 3 03", "9", "street 01", "9", "street 10 1", "7", "street one 1", "7",
         "street 0;1", "8", "street 0 1 long", "15", "street 0 1 long 0", "16", "street 0 1 long 21", "16",

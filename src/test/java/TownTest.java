@@ -105,6 +105,8 @@ public final class TownTest {
         Check.due("kind then", x.of(0, 0), 6);
         Check.due("change length", x.change(0, 3, 20), 9);
         Check.due("length then", x.of(0, 3), 20);
+        Check.due("change to the least length", x.change(0, 3, 1), 20);
+        Check.due("and back", x.change(0, 3, 20), 1);
         Check.due("change umbrella", x.change(0, 4, 1), 0);
         Check.due("umbrella then", x.of(0, 4), 1);
         Check.due("umbrella off", x.change(0, 4, 0), 1);
@@ -177,6 +179,7 @@ public final class TownTest {
         checkLosses(x, "salt, umbrella", 4, 7, 3, 5, 0, 5, 7, 7);
         x.made(0);
         checkLosses(x, "sugar, umbrella", 4, 14, 7, 11, 0, 11, 16, 19);
+        Check.due("loss(0, 11): the last spell", x.loss(0, 11), 6);
         Check.due("loss(7, 0)", x.loss(7, 0), Check.BEYOND);
         Check.due("loss(0, 12)", x.loss(0, 12), Check.BEYOND);
         for (int far : Check.FAR) {

@@ -103,6 +103,8 @@ public final class WaysTest {
         }
         x.wait(40);
         Check.due("at 700", x.most(2), 949);
+        Check.due("minutes of the way, not of the day", x.soonest(2), 10);
+        Check.due("her own at 700", x.soonest(0), 0);
         x.wait(1);
         Check.due("most at 701", x.most(2), Check.STATE);
         Check.due("her own at 701", x.most(0), Check.STATE);
