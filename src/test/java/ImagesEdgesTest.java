@@ -234,6 +234,16 @@ public final class ImagesEdgesTest {
             count(7) = 10
             hold(0, -1)
             count(7) = 9
+
+            # any STREET is something, the last of fourteen too
+            14 x street(0, 0, 1, 5)
+            hold(0, 13)
+            hold(1, 1)
+            count(7) = 2
+            hold(1, 13)
+            count(7) = 2
+            hold(1, -1)
+            count(7) = 1
             """);
     }
 

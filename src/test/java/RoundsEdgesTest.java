@@ -4,6 +4,7 @@ public final class RoundsEdgesTest {
     public static void main(String[] args) {
         late();
         round();
+        roundFaces();
         ith();
         rounds();
         start();
@@ -98,7 +99,11 @@ public final class RoundsEdgesTest {
             quarter(4, 3)
             quarter(3, 1)
             round() = 1000
+            """);
+    }
 
+    private static void roundFaces() {
+        Edges.check("round: her FACE", """
             # home, too, must see her FACE: a grain is enough, none is not
             street(0, 0, 1, 1)
             grains(0, 0)
@@ -117,6 +122,27 @@ public final class RoundsEdgesTest {
             round() = NONE
             grains(2, 7)
             round() = 507 - 12
+
+            # HALO and ARMS melt ahead of FACE: home sees it as long as a grain of it is there
+            street(0, 0, 1, 1)
+            grains(0, 5)
+            grains(1, 4)
+            grains(2, 3)
+            grains(3, 0)
+            round() = NONE
+            grains(2, 4)
+            round() = 1
+            grains(0, 4)
+            round() = NONE
+            grains(1, 5)
+            round() = 1
+
+            # a FACE without a grain is none, whatever HALO and ARMS have
+            street(3, 0, 1, 1)
+            grains(2, 0)
+            round() = NONE
+            grains(2, 1)
+            round() = 801
 
             # those SEEN ahead of it count; then nothing LEFT is a number of GRAINS, too
             street(0, 0, 1, 1)
@@ -191,6 +217,15 @@ public final class RoundsEdgesTest {
             street(3, 2, 3, 5)
             ith(0) = NONE
             ith(6) = NONE
+
+            # there was one, and is none now
+            'chapel 0 1; chapel 1 2; chapel 2 0'
+            text() = 3
+            ith(1) = 2
+            rounds() = 2
+            grains(2, 0)
+            ith(0) = NONE
+            ith(1) = NONE
 
             # the first such ROUND that leaves so much: a shorter one ahead of those that go on from it
             'chapel 0 1; chapel 1 2; chapel 2 0; quarter 1 0; quarter 2 0'
@@ -273,6 +308,28 @@ public final class RoundsEdgesTest {
             spell(2, 0, 4)
             start() = 60
             spell(3, 0, 4)
+            start() = 0
+
+            # a later one that leaves less is not the one, nor one that leaves less than the first
+            street(0, 0, 1, 1)
+            spell(1, 0, 0)
+            start() = 20
+            wait(10)
+            start() = 10
+            wait(10)
+            start() = 0
+            wait(19)
+            start() = 0
+
+            # a ROUND that begins in one SPELL and ends in the next
+            street(0, 0, 1, 1)
+            spell(1, 0, 0)
+            spell(2, 0, 0)
+            wait(18)
+            start() = 2
+            wait(1) = 19
+            start() = 1
+            wait(1) = 20
             start() = 0
 
             # NONE: there is no ROUND by any
@@ -386,6 +443,18 @@ public final class RoundsEdgesTest {
             grains(2, 0)
             umbrella() = NONE
 
+            # with one, not with those of lesser numbers too; a later one that leaves less is not the one
+            'street 0 1 long 1; street 1 2 long 2; street 2 0 long 1; spell 0 sun 0 rain 1'
+            text() = 4
+            umbrella() = 1
+            of(0, 4) = 0
+            of(1, 4) = 0
+            count(2) = 0
+            change(0, 3, 3)
+            umbrella() = 0
+            change(0, 4, 1)
+            umbrella() = 1
+
             # of several the least, also where it does nothing
             14 x street(0, 0, 1, 1)
             umbrella() = 0
@@ -420,6 +489,16 @@ public final class RoundsEdgesTest {
             shade() = 0
             grains(2, 6)
             shade() = NONE
+
+            # a later one that leaves less is not the one, nor are those of lesser numbers shaded too
+            'street 0 1 long 3; street 1 2 long 1; street 2 0 long 2'
+            text() = 3
+            shade() = 0
+            of(0, 0) = 0
+            change(0, 3, 1)
+            change(1, 3, 2)
+            change(2, 3, 1)
+            shade() = 1
 
             # of several the least, also if all are SHADED
             'shaded 0 1; shaded 0 1'

@@ -527,6 +527,29 @@ public final class SheetsEdgesTest {
             carry(0)
             judge(0) = NONE
 
+            # what melts on one STREET and on the next goes off together
+            'street 0 1 long 1; street 1 2 long 2'
+            text() = 2
+            sheet(0, 8, 3)
+            write(0, 0, 1)
+            write(0, 1, 2)
+            write(0, 2, 1)
+            judge(0) = 1000 - 6 - 12 - 12
+            now(4) = 1000
+            now(6) = 0
+            now(7) = 0
+            now(8) = 0
+            now(9) = 0
+
+            # by the SPELL of MINUTE, from where the STREET ahead ends
+            'street 0 1 long 10; spell 1 sun 1; spell 2 sun 0'
+            text() = 3
+            sheet(0, 8, 4)
+            write(0, 0, 1)
+            write(0, 2, 1)
+            wait(5)
+            judge(0) = 1000 - 90 - 30 - 10
+
             # nothing LEFT is no finding
             street(0, 0, 1, 1)
             sheet(0, 8, 1)

@@ -9,6 +9,7 @@ public final class TextsEdgesTest {
         spellItems();
         quarterItems();
         tokens();
+        signs();
         earlyEnds();
         fifteenthStreets();
         Check.finish();
@@ -319,6 +320,27 @@ public final class TextsEdgesTest {
             'quarter sun 0'
             text() = -1 - 8
 
+            # a TEXT that tells of neither leaves her of what she is
+            made(1)
+            'quarter 0 3'
+            text() = 1
+            now(5) = 1
+            made(0)
+            'quarter 0 2'
+            text() = 1
+            now(5) = 0
+            'salt; street 0 0'
+            text() = -1 - 15
+            'quarter 0 1'
+            text() = 1
+            now(5) = 0
+            'salt'
+            text() = 1
+            made(0)
+            'spell 0'
+            text() = 1
+            now(5) = 0
+
             # salt or sugar, with nothing behind it
             'salt'
             text() = 1
@@ -363,6 +385,36 @@ public final class TextsEdgesTest {
             'salt salt'
             text() = -1 - 5
 
+            # WORDS as long as those that are known, of which one letter is another
+            'talt'
+            text() = -1 - 0
+            'salu'
+            text() = -1 - 0
+            'sals'
+            text() = -1 - 0
+            'zugar'
+            text() = -1 - 0
+            'streeu 0 1'
+            text() = -1 - 0
+            'antz 0 1'
+            text() = -1 - 0
+            'street 0 1 mong 3'
+            text() = -1 - 11
+            'spell 0 sum 1'
+            text() = -1 - 8
+            'spell 0 run 1'
+            text() = -1 - 8
+            'spell 0 rail 1'
+            text() = -1 - 8
+            'saltz'
+            text() = -1 - 0
+            'salta'
+            text() = -1 - 0
+            """);
+    }
+
+    private static void signs() {
+        Edges.check("text: letters, digits, other bytes", """
             # letters a to z
             'Salt'
             text() = -1 - 0
@@ -393,6 +445,23 @@ public final class TextsEdgesTest {
             text() = -1 - 4
             'salt; ?'
             text() = -1 - 6
+
+            # bytes below and above a blank, above all letters
+            feed(0, 1)
+            text() = -1 - 0
+            feed(31, 1)
+            text() = -1 - 0
+            feed(33, 1)
+            text() = -1 - 0
+            feed(127, 1)
+            text() = -1 - 0
+            'salt'
+            feed(0, 2)
+            text() = -1 - 4
+            feed(32, 1)
+            'salt'
+            feed(32, 1)
+            text() = 1
 
             # the first that can't stand there, not a later one
             'street 0 1 sun; ?'

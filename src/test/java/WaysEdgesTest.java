@@ -287,6 +287,15 @@ public final class WaysEdgesTest {
             ways(2) = 2
             ways(0) = 2
             ways(1) = 1
+
+            # a ROUND on the WAY is none
+            'street 0 1 long 1; street 1 5 long 1'
+            text() = 2
+            rounds() = 1
+            ways(5) = 1
+            most(5) = 1000 - 12
+            soonest(5) = 2
+            ways(1) = 1
             """);
     }
 
