@@ -1,4 +1,5 @@
 import java.io.IOException;
+import java.lang.reflect.Field;
 import java.lang.reflect.Member;
 import java.lang.reflect.Method;
 import java.lang.reflect.Modifier;
@@ -36,6 +37,7 @@ public final class FaceTest {
         for (Member field : face.getDeclaredFields()) {
             Check.due(field.getName() + " is private", isHidden(field) ? 1 : 0, 1);
         }
+        sizes();
         words();
         Check.finish();
     }
@@ -56,6 +58,35 @@ public final class FaceTest {
             found += isHidden(m) && names.contains(m.getName()) ? 1 : 0;
         }
         return found;
+    }
+
+    /** What LANGUAGE.md lets a file, a class and a method have. */
+    private static void sizes() {
+        Class<?>[] inside = SugarSaint.class.getDeclaredClasses();
+        Check.due("at most some twelve classes", inside.length < 12 ? 1 : 0, 1);
+        size(SugarSaint.class);
+        for (Class<?> c : inside) {
+            Check.due(c.getName() + " is static", Modifier.isStatic(c.getModifiers()) ? 1 : 0, 1);
+            Check.due(c.getName() + " is not to be seen", c.getModifiers() & (Modifier.PUBLIC | Modifier.PROTECTED), 0);
+            Check.due(c.getName() + " has no class inside", c.getDeclaredClasses().length, 0);
+            size(c);
+        }
+    }
+
+    private static void size(Class<?> c) {
+        int fields = 0;
+        for (Field field : c.getDeclaredFields()) {
+            if (Modifier.isStatic(field.getModifiers())) {
+                Check.due(c.getName() + ": static " + field.getName() + " is a final number",
+                        Modifier.isFinal(field.getModifiers()) && field.getType() == int.class ? 1 : 0, 1);
+            } else {
+                fields++;
+            }
+        }
+        Check.due(c.getName() + " has at most some twenty fields", fields <= 20 ? 1 : 0, 1);
+        for (Method m : c.getDeclaredMethods()) {
+            Check.due(m.getName() + " takes at most seven parameters", m.getParameterCount() <= 7 ? 1 : 0, 1);
+        }
     }
 
     private static void words() throws IOException {
